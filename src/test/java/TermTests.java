@@ -47,7 +47,7 @@ public final class TermTests extends Sentences {
     y.rule(3, 1);
     text(y, "melt (h*g+p)/(g+1)");
     int want = y.best(5, 1);
-    for (int call = 8; call < 512; call++) y.best(5, 0);
+    for (int call = 9; call < 512; call++) y.best(5, 0);
     due(y.best(5, 1), want);
   }
 
@@ -461,6 +461,15 @@ public final class TermTests extends Sentences {
     due(hauled(one(at(4, 5, 1), 2, 6, 0), 2), 5);
     // One PLACE, not two.
     due(hauled(one(at(4, 5, 1), 2, 7, 99), 2), 5);
+    // A STALL that is gone draws nothing; of nine the last one does.
+    OneCloth gone = at(4, 5, 1);
+    gone.keep();
+    gone.stall(2, 4, 99);
+    gone.back();
+    due(hauled(gone, 2), 5);
+    OneCloth full = at(4, 5, 1);
+    for (int i = 0; i < 9; i++) full.stall(2, 6, i == 8 ? 1 : 0);
+    due(hauled(full, 2), 6);
   }
 
   private static void losses() {
@@ -859,6 +868,7 @@ public final class TermTests extends Sentences {
       faultAt(keys[key].substring(1) + " 1", 0);
       faultAt(keys[key].substring(0, keys[key].length() - 1) + " 1", 0);
       faultAt(keys[key] + "e 1", 0);
+      faultAt("g" + keys[key].substring(1) + " 1", 0);
       faultAt(keys[key].toUpperCase() + " 1", 0);
       faultAt(keys[key] + " " + keys[key] + " 1", keys[key].length() + 1);
     }
@@ -1115,6 +1125,26 @@ public final class TermTests extends Sentences {
     faultAt("fee (((1))", 10);
     faultAt("fee !!", 6);
     faultAt("fee " + "1+".repeat(46), 96);
+    // Bytes that were there once are not read again.
+    OneCloth x = new OneCloth();
+    due(text(x, "  fee 1"), 0);
+    due(x.text(), -100);
+    due(text(x, "fee"), -103);
+    faultsOneByOne();
+  }
+
+  /** What one TEXT left open, or where it ended, is nothing to the next one. */
+  private static void faultsOneByOne() {
+    OneCloth x = new OneCloth();
+    for (int i = 0; i < 3; i++) {
+      due(text(x, "fee cat"), -104);
+      due(text(x, "fee ((((((5"), -111);
+      due(text(x, "fee !!!!!!"), -110);
+      due(text(x, "fee 5 5"), -106);
+      due(text(x, "fee ((((((((!!!!!!!!5))))))))"), i);
+      due(x.textTold(i, 1), 1);
+      due(x.fee(), 1);
+    }
   }
 
   private static void values() {
@@ -1170,6 +1200,15 @@ public final class TermTests extends Sentences {
     due(x.told(0, 4), 1);
     int[] counting = {5, 1, 4};
     for (int key = 0; key < 3; key++) due(x.why(key), counting[key]);
+    // The last that there can be counts, of each KEY.
+    String[] keys = {"melt", "fee", "fine"};
+    for (int key = 0; key < 3; key++) {
+      OneCloth y = one(still(), 0, 11, 0);
+      for (int i = 0; i < 14; i++) text(y, keys[key] + " 2" + (i + 10));
+      due(y.why(key), 13);
+      y.set(0, 2, 999);
+      due(key == 0 ? y.told(0, 4) : key == 1 ? y.fee() : y.fine(0), 223);
+    }
   }
 
   // ---------------------------------------------------------------- section 5
