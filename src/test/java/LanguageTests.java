@@ -6,13 +6,17 @@ import java.nio.file.Files;
 import java.nio.file.Path;
 import java.util.ArrayList;
 import java.util.List;
+import java.util.Map;
 import java.util.Set;
+import java.util.TreeMap;
 import java.util.TreeSet;
 import java.util.regex.Matcher;
 import java.util.regex.Pattern;
 
 /** The rules of LANGUAGE.md that can be seen from the source's words and from the compiled class. */
 public final class LanguageTests {
+  private static final Pattern HEAD = Pattern.compile(
+      "^( +)((?:private |public |static |final )*)(?:int|boolean|void|String|\\w+\\[\\]) (\\w+)\\(([^)]*)\\) \\{$");
   private static int wrong = 0;
 
   private static void rule(int number, boolean kept, String what) {
@@ -25,8 +29,10 @@ public final class LanguageTests {
     String doc = Files.readString(root.resolve("../shared/DOC.md"));
     String code = withoutTexts(source);
     face(doc);
+    groups(doc, source);
     words(code);
     methods(code);
+    depth(code);
     classes();
     System.out.println(wrong == 0 ? "the language is kept to" : wrong + " rules are not kept");
     if (wrong != 0) System.exit(1);
@@ -58,6 +64,29 @@ public final class LanguageTests {
     rule(1, Modifier.isFinal(OneCloth.class.getModifiers()), "the class is not final");
   }
 
+  /** What the interface says ahead of its calls stands there, and the calls stand in the document's order. */
+  private static void groups(String doc, String source) {
+    int at = 0;
+    int seen = 0;
+    Matcher group = Pattern.compile("Ahead of the calls (.*?) the interface says: (---- .*?)\\.\n").matcher(doc);
+    while (group.find()) {
+      at = next(source, "    // " + group.group(2) + "\n", at);
+      Matcher call = Pattern.compile("`(\\w+)`").matcher(group.group(1));
+      while (call.find()) {
+        at = next(source, "    public int " + call.group(1) + "(", at);
+        seen++;
+      }
+    }
+    rule(1, seen == 39, "calls in groups: " + seen);
+    rule(1, source.split("\n    // ---- ", -1).length - 1 == 6, "there are other groups than the document's");
+  }
+
+  private static int next(String source, String words, int from) {
+    int at = source.indexOf(words, from);
+    rule(1, at >= 0, "not in the document's order: " + words.trim());
+    return Math.max(at, from);
+  }
+
   private static void words(String code) {
     String[] never = {"throw", "throws", "try", "catch", "finally", "synchronized", "assert", "import", "package", "var",
       "equals", "hashCode", "toString", "System\\.out", "System\\.nano\\w*", "Thread", "Random", "volatile", "NaN",
@@ -78,9 +107,8 @@ public final class LanguageTests {
     List<String> names = new ArrayList<>();
     Set<String> publicNames = new TreeSet<>();
     String[] lines = code.split("\n", -1);
-    Pattern head = Pattern.compile("^( +)((?:private |public |static |final )*)(?:int|boolean|void|String|\\w+\\[\\]) (\\w+)\\(([^)]*)\\) \\{$");
     for (int i = 0; i < lines.length; i++) {
-      Matcher m = head.matcher(lines[i]);
+      Matcher m = HEAD.matcher(lines[i]);
       if (!m.find()) continue;
       if (m.group(2).contains("public")) publicNames.add(m.group(3)); else names.add(m.group(3));
       int end = i;
@@ -90,6 +118,64 @@ public final class LanguageTests {
     }
     rule(11, names.size() > 20 && publicNames.size() == 39, "methods are not seen: " + names.size() + ", " + publicNames.size());
     for (String name : names) rule(1, !publicNames.contains(name), name + " is a public method's name too");
+  }
+
+  /** By name, which methods a method calls. Methods of one name count as one, so a chain may only seem longer. */
+  private static Map<String, Set<String>> callsIn(String code) {
+    Map<String, Set<String>> words = new TreeMap<>();
+    String inside = null;
+    for (String line : code.split("\n", -1)) {
+      Matcher m = HEAD.matcher(line);
+      if (m.find()) {
+        inside = m.group(3);
+        words.putIfAbsent(inside, new TreeSet<>());
+      } else if (inside != null) {
+        Matcher call = Pattern.compile("(?<!new )\\b(\\w+)\\(").matcher(line);
+        while (call.find()) words.get(inside).add(call.group(1));
+      }
+    }
+    for (Set<String> called : words.values()) called.retainAll(words.keySet());
+    return words;
+  }
+
+  private static void depth(String code) {
+    Map<String, Set<String>> calls = callsIn(code);
+    Map<String, Set<String>> reached = new TreeMap<>();
+    for (String name : calls.keySet()) {
+      Set<String> all = new TreeSet<>();
+      reach(name, calls, all);
+      reached.put(name, all);
+    }
+    for (String name : calls.keySet()) {
+      List<String> chain = longest(name, calls, reached);
+      rule(11, chain.size() <= 8, "calls go " + chain.size() + " deep: " + chain);
+    }
+    rule(11, longest("behind", calls, reached).size() >= 6, "calls are not seen");
+    Set<String> recursive = new TreeSet<>(Set.of("takeOver"));
+    for (String name : calls.keySet()) if (reached.get(name).contains(name)) recursive.add(name);
+    rule(8, recursive.equals(new TreeSet<>(Set.of("takeOver", "tryHaulings", "readLevel", "readPiece", "readNot", "readBracket"))),
+        "these call themselves; look at their guards: " + recursive);
+  }
+
+  private static void reach(String name, Map<String, Set<String>> calls, Set<String> all) {
+    for (String called : calls.get(name)) if (all.add(called)) reach(called, calls, all);
+  }
+
+  /** Methods that call one another are recursion, and count as one. */
+  private static List<String> longest(String name, Map<String, Set<String>> calls, Map<String, Set<String>> reached) {
+    Set<String> level = new TreeSet<>(Set.of(name));
+    for (String other : reached.get(name)) if (reached.get(other).contains(name)) level.add(other);
+    List<String> best = new ArrayList<>();
+    for (String from : level) {
+      for (String called : calls.get(from)) {
+        if (level.contains(called)) continue;
+        List<String> chain = longest(called, calls, reached);
+        if (chain.size() > best.size()) best = chain;
+      }
+    }
+    List<String> whole = new ArrayList<>(List.of(name));
+    whole.addAll(best);
+    return whole;
   }
 
   private static void classes() {
