@@ -1228,6 +1228,20 @@ public final class BoundaryTests extends Sentences {
       if (left > 0) due(y.check(left), 0);
       due(y.check(30), left == 0 ? 0 : 1);
     }
+    // It is THE IMAGE's HOUR that counts, wherever THE HOUR is by now.
+    OneCloth on = at(9996);
+    on.rule(0, 4);
+    on.keep();
+    on.hours(3);
+    due(on.count(1), 9999);
+    wait(on, 0, 4, 0, 4, 0, 4);
+    due(on.check(30), 0);
+    OneCloth far = still();
+    far.keep();
+    for (int i = 0; i < 100; i++) far.hours(100);
+    due(far.count(1), 9999);
+    for (int i = 0; i < 60; i++) far.tell(0);
+    due(far.check(30), 0);
 
     sentence("else 1 and how many stand right ahead of the first that is not (or is missing, or one too many).");
     OneCloth z = kept();

@@ -744,6 +744,16 @@ public final class TermTests extends Sentences {
     due(y.shaded(0, 3), 2);
     due(y.shaded(0, 60), 12);
     due(y.shaded(1, 60), 0);
+    // The hauling of each HOUR is that of its own: up three times from HOUR 4 on, not, not, down, up, up, up, not, down, ..
+    OneCloth lost = one(at(4, 4, 1), 0, 8, 0);
+    lost.rule(3, 1);
+    int[] byLoss = {0, 0, 0, 1, 2, 3, 3, 3, 4, 5, 6, 7, 8, 9};
+    for (int n = 1; n <= byLoss.length; n++) due(lost.shaded(0, n), byLoss[n - 1]);
+    // By PAY: not, not, not, up (when the SHADE has gone from the one to between both), not, down.
+    OneCloth paid = one(one(at(4, 4, 1), 2, 4, 1), 2, 6, 9);
+    paid.rule(3, 2);
+    for (int n = 1; n <= 6; n++) due(paid.shaded(0, n), Math.min(n, 3));
+    for (int n = 1; n <= 6; n++) due(paid.shaded(1, n), Math.max(0, n - 3));
 
     sentence("WITHOUT for n: the STALL with which, if its PAY were 0 now, COINS behind n HOURS are most; of several the least.");
     OneCloth w = one(one(one(at(4, 0, 3), 2, 0, 9), 2, 1, 5), 2, 2, 5);
@@ -963,6 +973,17 @@ public final class TermTests extends Sentences {
     faultAt("fee 1!", 5);
     faultAt("fee (1)(2)", 7);
     faultAt("fee !)", 5);
+    gives("fee 9-(8-(7-(6-(5-(4-(3-(2-(1))))))))", 5);
+    // As much as can wait for what stands behind it: each of the seven levels makes 1 of 0, and 0 of 1.
+    String deep = "fee " + "0|1&0=0+1*(".repeat(7);
+    gives(deep + "0|1&0=0" + ")".repeat(7), 0);
+    gives(deep + "0|1&0=1" + ")".repeat(7), 1);
+    OneCloth melting = one(at(4, 0, 1), 0, 11, 0);
+    due(text(melting, "melt" + deep.substring(3) + "h-g" + ")".repeat(7)), 0);
+    due(melting.told(0, 4), 0);
+    melting.set(0, 2, 40);
+    due(melting.told(0, 4), 1);
+    due(melting.textTold(0, 1), 37);
   }
 
   private static void names() {
